@@ -1,0 +1,61 @@
+import java.lang.reflect.Field;
+
+/**
+ * No run of calls makes an object unsound, so this test reaches into one and spoils a number: isSound() must see it.
+ * It knows the names of Ninewheel's private rows for that; whoever renames them renames them here.
+ */
+public final class SoundTest {
+    private static int wrong = 0;
+
+    private SoundTest() {
+    }
+
+    private static Ninewheel fresh() {
+        Ninewheel x = new Ninewheel();
+        x.put(0, 999999, 0);
+        x.put(1, -1250, 3);
+        x.setWheel(0, 1, 7);
+        x.setWheel(1, 4, 21);
+        return x;
+    }
+
+    private static void spoil(String row, int at, int value) {
+        Ninewheel x = fresh();
+        try {
+            Field field = Ninewheel.class.getDeclaredField(row);
+            field.setAccessible(true);
+            ((int[]) field.get(x))[at] = value;
+        } catch (ReflectiveOperationException e) {
+            throw new IllegalStateException(e);
+        }
+        if (x.isSound()) {
+            wrong++;
+            System.out.println(row + "[" + at + "] = " + value + " is said to be sound");
+        }
+    }
+
+    public static void main(String[] args) {
+        if (!fresh().isSound()) {
+            wrong++;
+            System.out.println("what is sound is said not to be");
+        }
+        spoil("counts", 0, 1000000);
+        spoil("counts", 3, -1000000);
+        spoil("points", 1, 4);
+        spoil("points", 2, -1);
+        spoil("lengths", 0, 5);
+        spoil("lengths", 0, 3);
+        spoil("lengths", 0, 12);
+        spoil("lengths", 0, 0);
+        spoil("lengths", 2, 2);
+        spoil("tops", 0, 7);
+        spoil("tops", 1, -1);
+        spoil("bottoms", 0, 14);
+        spoil("bottoms", 1, 0);
+        spoil("bottoms", 0, 2);
+        System.out.println(wrong == 0 ? "all answers are as due" : wrong + " answers are not as due");
+        if (wrong != 0) {
+            System.exit(1);
+        }
+    }
+}
