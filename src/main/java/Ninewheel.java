@@ -23,8 +23,8 @@ public final class Ninewheel {
     private static final int WAY_NONE = 7;
 
     private static final int DECLINED = -9;
-    // No COUNT can be this one, so a refused rounding falls at the same gate as a result that does not fit.
-    private static final long REFUSED = Long.MIN_VALUE;
+    // Far beyond each COUNT that comes up, so a refused rounding falls at the same gate as a result that does not fit.
+    private static final long REFUSED = -9000000000000000000L;
 
     private static final int DECIMAL_ACTS = 0;
     private static final int WHEEL_ACTS = 1;

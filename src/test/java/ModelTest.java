@@ -9,7 +9,8 @@ import java.util.Objects;
 /** Holds Ninewheel against Model: in long runs of mixed calls, right and wrong ones, and over whole ranges. */
 public final class ModelTest {
     private static final int RUNS = 120;
-    private static final int CALLS = 512;
+    // With a digest behind each eighth call these stay within the 512 that the document answers for.
+    private static final int CALLS = 448;
 
     /** What each parameter of a method is; Arguments makes values of it. */
     private static final String[] FACE = {
@@ -126,8 +127,8 @@ public final class ModelTest {
         Model want = new Model();
         List<String> calls = new ArrayList<>();
         for (int call = 0; call < CALLS; call++) {
-            // Each third run keeps to a half of the face, so that states build up that the whole face would disturb.
-            int from = number % 3 == 1 ? 0 : number % 3 == 2 ? 22 : 0;
+            // Two of three runs keep to decimals or to wheels, so that states build up which the whole face disturbs.
+            int from = number % 3 == 2 ? 19 : 0;
             int to = number % 3 == 1 ? 27 : FACE.length;
             String[] form = FACE[from + next(to - from)].split(" ");
             Object[] arguments = new Object[form.length - 1];
@@ -188,28 +189,32 @@ public final class ModelTest {
         }
     }
 
-    /** Small decimals of all places, to all places and to all numbers of digits, by all ways. */
-    private static void allRoundings() {
+    private static void allRoundingsOf(int count, int places) {
         Ninewheel got = new Ninewheel();
         Model want = new Model();
+        for (int way = 0; way <= 7; way++) {
+            for (int to = 0; to <= 3; to++) {
+                List<String> calls = List.of("put", count + " " + places, "setPlaces", to + " by " + way);
+                got.put(0, count, places);
+                want.put(0, count, places);
+                due(calls, got.setPlaces(0, to, way), want.setPlaces(0, to, way));
+                due(calls, got.text(0, 0), want.text(0, 0));
+            }
+            for (int digits = 1; digits <= 3; digits++) {
+                List<String> calls = List.of("put", count + " " + places, "round", digits + " by " + way);
+                got.put(0, count, places);
+                want.put(0, count, places);
+                due(calls, got.round(0, digits, way), want.round(0, digits, way));
+                due(calls, got.text(0, 0), want.text(0, 0));
+            }
+        }
+    }
+
+    /** Small decimals of all places, to all places and to all numbers of digits, by all ways. */
+    private static void allRoundings() {
         for (int count = -1100; count <= 1100; count++) {
             for (int places = 0; places <= 3; places++) {
-                for (int way = 0; way <= 7; way++) {
-                    for (int to = 0; to <= 3; to++) {
-                        List<String> calls = List.of("put", count + " " + places, "setPlaces", to + " by " + way);
-                        got.put(0, count, places);
-                        want.put(0, count, places);
-                        due(calls, got.setPlaces(0, to, way), want.setPlaces(0, to, way));
-                        due(calls, got.text(0, 0), want.text(0, 0));
-                    }
-                    for (int digits = 1; digits <= 3; digits++) {
-                        List<String> calls = List.of("put", count + " " + places, "round", digits + " by " + way);
-                        got.put(0, count, places);
-                        want.put(0, count, places);
-                        due(calls, got.round(0, digits, way), want.round(0, digits, way));
-                        due(calls, got.text(0, 0), want.text(0, 0));
-                    }
-                }
+                allRoundingsOf(count, places);
             }
         }
     }
