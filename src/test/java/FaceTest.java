@@ -111,7 +111,8 @@ public final class FaceTest {
         check(there.equals(due), "the face is " + there + ", due is " + due);
         for (Field field : face.getDeclaredFields()) {
             check(Modifier.isPrivate(field.getModifiers()), field + " shows");
-            check(Modifier.isFinal(field.getModifiers()) || !Modifier.isStatic(field.getModifiers()), field + " varies");
+            check(Modifier.isFinal(field.getModifiers()) || !Modifier.isStatic(field.getModifiers()),
+                field + " varies");
         }
         Constructor<?>[] constructors = face.getDeclaredConstructors();
         check(constructors.length == 1 && constructors[0].getParameterCount() == 0
