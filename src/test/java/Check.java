@@ -64,6 +64,15 @@ abstract class Check {
         return x;
     }
 
+    /** The same, but beginning with another cell than 0, and behind cell 3 with cell 0 again. */
+    static Ninewheel cellsFrom(int first, String... texts) {
+        String[] all = {"0", "0", "0", "0"};
+        for (int i = 0; i < texts.length; i++) {
+            all[(first + i) % 4] = texts[i];
+        }
+        return cells(all);
+    }
+
     /** An object whose wheels, from 0 on, have these tops and bottoms. */
     static Ninewheel wheels(int... topsAndBottoms) {
         Ninewheel x = new Ninewheel();
@@ -124,6 +133,39 @@ abstract class Check {
         String want = String.join(" | ", after);
         due(Objects.equals(got, due) && all.equals(want), "behind [" + String.join(" | ", before) + "] it answered "
             + got + " and left [" + all + "], due is " + due + " and [" + want + "]");
+    }
+
+    /** The checksum as the document words it, of what the public face answers. */
+    static long checksum(Ninewheel x) {
+        long d = 7944;
+        for (int cell = 0; cell < 4; cell++) {
+            d = d * 31 + x.count(cell);
+            d = d * 31 + x.places(cell);
+            d = d * 31 + x.digits(cell);
+            d = d * 31 + x.sign(cell);
+        }
+        int[][] pairs = {{0, 1}, {0, 2}, {0, 3}, {1, 2}, {1, 3}, {2, 3}};
+        for (int[] pair : pairs) {
+            d = d * 31 + x.order(pair[0], pair[1]);
+            d = d * 31 + (x.same(pair[0], pair[1]) ? 1 : 0);
+        }
+        for (int wheel = 0; wheel < 3; wheel++) {
+            for (int what = 0; what <= 4; what++) {
+                d = d * 31 + x.spoke(wheel, what);
+            }
+            d = d * 31 + x.nines(wheel, 2);
+            d = d * 31 + x.nines(wheel, 3);
+            for (int cell = 0; cell < 4; cell++) {
+                d = d * 31 + x.against(wheel, cell);
+            }
+        }
+        d = d * 31 + x.wheelOrder(0, 1);
+        d = d * 31 + x.wheelOrder(0, 2);
+        d = d * 31 + x.wheelOrder(1, 2);
+        for (int what = 0; what < 4; what++) {
+            d = d * 31 + x.house(what);
+        }
+        return d * 31 + (x.isSound() ? 1 : 0);
     }
 
     // ---- checks of a call and of all that it leaves

@@ -611,6 +611,46 @@ public final class DecimalEdgeTest extends Check {
         tells(cells("0", "0.0"), x -> x.same(1, 1), true);
     }
 
+    private static void actsOnEachCell() {
+        for (int i = 0; i < 4; i++) {
+            int a = i;
+            int b = (i + 1) % 4;
+            int c = (i + 3) % 4;
+            String[] all = {"-1.50", "2.0", "9", "7"};
+            about(2, "each cell, with a, b and c numbered " + a + ", " + b + " and " + c);
+            brings(cellsFrom(a, all), x -> x.put(a, 5, 1), 1, a, "0.5");
+            brings(cellsFrom(a, all), x -> x.write(a, true, 5, 1, 3), 1, a, "-5.3");
+            brings(cellsFrom(a, all), x -> x.copy(a, b), 1, b, "-1.50");
+            brings(cellsFrom(a, all), x -> x.negate(a), 1, a, "1.50");
+            brings(cellsFrom(a, all), x -> x.size(a), 1, a, "1.50");
+            brings(cellsFrom(a, all), x -> x.add(a, b, c), 1, c, "0.50");
+            brings(cellsFrom(a, all), x -> x.subtract(a, b, c), 1, c, "-3.50");
+            brings(cellsFrom(a, all), x -> x.multiply(a, b, c), 1, c, "-3.000");
+            brings(cellsFrom(a, all), x -> x.power(b, 3, c), 1, c, "8.000");
+            brings(cellsFrom(a, all), x -> x.divide(a, b, 2, 7, c), 1, c, "-0.75");
+            brings(cellsFrom(a, all), x -> x.share(a, 4, c), 1, c, "-0.375");
+            brings(cellsFrom(a, all), x -> x.whole(a, 1, c), 1, c, "-1");
+            brings(cellsFrom(a, all), x -> x.rest(a, 1, c), 1, c, "-0.50");
+            brings(cellsFrom(a, all), x -> x.setPlaces(a, 1, 7), 1, a, "-1.5");
+            brings(cellsFrom(a, all), x -> x.strip(a), 1, a, "-1.5");
+            brings(cellsFrom(a, all), x -> x.move(a, 1), 1, a, "-0.150");
+            brings(cellsFrom(a, all), x -> x.round(a, 1, 6), 1, a, "-2");
+            brings(cellsFrom(a, all), x -> x.round(a, 3, 6), 0, a, "-1.50");
+            brings(cellsFrom(a, all), x -> x.greater(a, b, c), 1, c, "2.0");
+            brings(cellsFrom(a, all), x -> x.lesser(a, b, c), 1, c, "-1.50");
+            brings(cellsFrom(a, all), x -> x.cut(2, true, 2, 7, c), 1, c, "0.00");
+            about(22, "each cell, with a and b numbered " + a + " and " + b);
+            tells(cellsFrom(a, all), x -> x.count(a) + x.count(b), -130);
+            tells(cellsFrom(a, all), x -> x.places(a) * 10 + x.places(b), 21);
+            tells(cellsFrom(a, all), x -> x.digits(a) * 10 + x.digits(b), 32);
+            tells(cellsFrom(a, all), x -> x.sign(a) * 10 + x.sign(b), -9);
+            tells(cellsFrom(a, all), x -> x.text(a, 0) + x.text(b, 1), "-1.502.0");
+            tells(cellsFrom(a, all), x -> x.order(a, b) * 10 + x.order(b, c), -11);
+            tells(cellsFrom(a, all), x -> x.same(a, b) || x.same(b, c) || !x.same(a, a), false);
+            tells(cellsFrom(a, all), x -> x.against(1, a) * 10 + x.against(1, b), 9);
+        }
+    }
+
     public static void main(String[] args) {
         atFirst();
         digitsOf();
@@ -636,6 +676,7 @@ public final class DecimalEdgeTest extends Check {
         greaterAndLesser();
         cut();
         orderAndSame();
+        actsOnEachCell();
         end();
     }
 }

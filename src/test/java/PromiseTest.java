@@ -1,72 +1,14 @@
-import java.util.Objects;
-
 /** For each promise the answers that the document's words ask for: ordinary inputs, edges, wrong inputs. */
-public final class PromiseTest {
-    private static final String BOUNDS = "IndexOutOfBoundsException";
-    private static final String ILLEGAL = "IllegalArgumentException";
-
-    private static int wrong = 0;
-    private static int promise = 0;
-
+public final class PromiseTest extends Check {
     private PromiseTest() {
     }
 
-    private interface Call {
-        Object on(Ninewheel wheel);
+    private static void promise(int number) {
+        about(number, "ordinary inputs, edges, wrong inputs");
     }
 
-    private static void is(Object got, Object want) {
-        if (!Objects.equals(got, want)) {
-            wrong++;
-            StackTraceElement at = new Throwable().getStackTrace()[1];
-            System.out.println("promise " + promise + ", line " + at.getLineNumber() + ": " + got + ", due is " + want);
-        }
-    }
-
-    /** The call throws just that, and all stays as it was. */
-    private static void fails(String name, Ninewheel x, Call call) {
-        long before = x.digest();
-        String thrown = "nothing";
-        try {
-            call.on(x);
-        } catch (RuntimeException e) {
-            thrown = e.getClass().getSimpleName();
-        }
-        if (!thrown.equals(name) || x.digest() != before) {
-            wrong++;
-            StackTraceElement at = new Throwable().getStackTrace()[1];
-            System.out.println("promise " + promise + ", line " + at.getLineNumber() + ": threw " + thrown
-                + ", due is " + name + (x.digest() == before ? "" : "; it changed something"));
-        }
-    }
-
-    /** The call tells -9, counts as such and changes nothing else. */
-    private static void declines(Ninewheel x, Call call) {
-        String before = state(x);
-        int acts = x.house(0);
-        int told = x.house(2);
-        Object answer = call.on(x);
-        boolean isRight = Integer.valueOf(-9).equals(answer) && state(x).equals(before)
-            && x.house(0) == acts && x.house(2) == told + 1;
-        if (!isRight) {
-            wrong++;
-            StackTraceElement at = new Throwable().getStackTrace()[1];
-            System.out.println("promise " + promise + ", line " + at.getLineNumber() + ": " + answer
-                + ", due is -9 and nothing changed but house(2)");
-        }
-    }
-
-    private static String state(Ninewheel x) {
-        StringBuilder all = new StringBuilder();
-        for (int cell = 0; cell < 4; cell++) {
-            all.append(x.text(cell, 0)).append(' ');
-        }
-        for (int wheel = 0; wheel < 3; wheel++) {
-            for (int what = 0; what < 5; what++) {
-                all.append(x.spoke(wheel, what)).append(' ');
-            }
-        }
-        return all.toString();
+    private static String told(Ninewheel x) {
+        return String.join(" | ", state(x));
     }
 
     private static Ninewheel with(int count0, int places0, int count1, int places1) {
@@ -87,7 +29,7 @@ public final class PromiseTest {
     }
 
     private static void p1New() {
-        is(state(new Ninewheel()), "0 0 0 0 0 1 0 0 1 0 1 0 0 1 0 1 0 0 1 ");
+        is(told(new Ninewheel()), "0 | 0 | 0 | 0 | 0 1 0 0 1 | 0 1 0 0 1 | 0 1 0 0 1 | 0 | 0 | 0 | 0");
         for (int what = 0; what < 4; what++) {
             is(new Ninewheel().house(what), 0);
         }
@@ -126,14 +68,14 @@ public final class PromiseTest {
         fails(BOUNDS, x, y -> y.write(4, false, -1, 4, -1));
         fails(ILLEGAL, x, y -> y.write(0, false, -1, 0, 0));
         fails(ILLEGAL, x, y -> y.write(0, false, 1000000, 0, 0));
-        fails(ILLEGAL, x, y -> y.write(0, false, 1, -1, 0));
-        fails(ILLEGAL, x, y -> y.write(0, false, 1, 4, 0));
-        fails(ILLEGAL, x, y -> y.write(0, false, 1, Integer.MAX_VALUE, 0));
-        fails(ILLEGAL, x, y -> y.write(0, false, 1, 0, 1));
-        fails(ILLEGAL, x, y -> y.write(0, false, 1, 2, 100));
-        fails(ILLEGAL, x, y -> y.write(0, false, 1, 2, -1));
+        fails(ILLEGAL, new Ninewheel(), y -> y.write(0, false, 1, -1, 0));
+        fails(ILLEGAL, new Ninewheel(), y -> y.write(0, false, 1, 4, 0));
+        fails(ILLEGAL, new Ninewheel(), y -> y.write(0, false, 1, Integer.MAX_VALUE, 0));
+        fails(ILLEGAL, new Ninewheel(), y -> y.write(0, false, 1, 0, 1));
+        fails(ILLEGAL, new Ninewheel(), y -> y.write(0, false, 1, 2, 100));
+        fails(ILLEGAL, new Ninewheel(), y -> y.write(0, false, 1, 2, -1));
         // The arguments are wrong and it would not fit: the exception goes ahead.
-        fails(ILLEGAL, x, y -> y.write(0, false, 999999, 3, 1000));
+        fails(ILLEGAL, new Ninewheel(), y -> y.write(0, false, 999999, 3, 1000));
     }
 
     private static void p4Copy() {
@@ -485,17 +427,17 @@ public final class PromiseTest {
 
     private static void p22to25Asked() {
         Ninewheel x = with(-100, 2, 999999, 3);
-        promise = 22;
+        promise(22);
         is(x.count(0), -100);
         is(x.count(1), 999999);
         fails(BOUNDS, x, y -> y.count(4));
         fails(BOUNDS, x, y -> y.count(-1));
-        promise = 23;
+        promise(23);
         is(x.places(0), 2);
         is(x.places(1), 3);
         fails(BOUNDS, x, y -> y.places(4));
         fails(BOUNDS, x, y -> y.places(-1));
-        promise = 24;
+        promise(24);
         is(x.digits(0), 3);
         is(x.digits(1), 6);
         is(x.digits(2), 1);
@@ -503,7 +445,7 @@ public final class PromiseTest {
         is(x.digits(2), 2);
         fails(BOUNDS, x, y -> y.digits(4));
         fails(BOUNDS, x, y -> y.digits(-1));
-        promise = 25;
+        promise(25);
         is(x.sign(0), -1);
         is(x.sign(1), 1);
         is(x.sign(3), 0);
@@ -559,11 +501,11 @@ public final class PromiseTest {
         fails(BOUNDS, x, y -> y.setWheel(3, -1, 2));
         fails(BOUNDS, x, y -> y.setWheel(-1, 0, 1));
         for (int bottom : new int[] {-3, -1, 0, 2, 5, 10, 15, 98, 95, 100, 101}) {
-            fails(ILLEGAL, x, y -> y.setWheel(0, 0, bottom));
+            fails(ILLEGAL, wheel(1, 7), y -> y.setWheel(0, 0, bottom));
         }
-        fails(ILLEGAL, x, y -> y.setWheel(0, -1, 7));
-        fails(ILLEGAL, x, y -> y.setWheel(0, 7, 7));
-        fails(ILLEGAL, x, y -> y.setWheel(0, 1, 1));
+        fails(ILLEGAL, wheel(1, 7), y -> y.setWheel(0, -1, 7));
+        fails(ILLEGAL, wheel(1, 7), y -> y.setWheel(0, 7, 7));
+        fails(ILLEGAL, wheel(1, 7), y -> y.setWheel(0, 1, 1));
     }
 
     private static void p30Step() {
@@ -818,7 +760,7 @@ public final class PromiseTest {
         is(x.knock(), 2);
         is(x.house(3), 2);
         is(x.house(0) + x.house(1) + x.house(2), 0);
-        is(state(x), state(new Ninewheel()));
+        is(told(x), "0 | 0 | 0 | 0 | 0 1 0 0 1 | 0 1 0 0 1 | 0 1 0 0 1 | 0 | 0 | 0 | 2");
     }
 
     private static void p48IsSound() {
@@ -865,108 +807,105 @@ public final class PromiseTest {
     }
 
     private static void decimals() {
-        promise = 1;
+        promise(1);
         p1New();
-        promise = 2;
+        promise(2);
         p2Put();
-        promise = 3;
+        promise(3);
         p3Write();
-        promise = 4;
+        promise(4);
         p4Copy();
-        promise = 5;
+        promise(5);
         p5Negate();
-        promise = 6;
+        promise(6);
         p6Size();
-        promise = 7;
+        promise(7);
         p7Add();
-        promise = 8;
+        promise(8);
         p8Subtract();
-        promise = 9;
+        promise(9);
         p9Multiply();
-        promise = 10;
+        promise(10);
         p10Power();
-        promise = 11;
+        promise(11);
         p11Divide();
-        promise = 12;
+        promise(12);
         p12Share();
-        promise = 13;
+        promise(13);
         p13Whole();
-        promise = 14;
+        promise(14);
         p14Rest();
-        promise = 15;
+        promise(15);
         p15SetPlaces();
-        promise = 16;
+        promise(16);
         p16Strip();
-        promise = 17;
+        promise(17);
         p17Move();
-        promise = 18;
+        promise(18);
         p18Round();
-        promise = 19;
+        promise(19);
         p19Greater();
-        promise = 20;
+        promise(20);
         p20Lesser();
-        promise = 21;
+        promise(21);
         p21Cut();
         p22to25Asked();
-        promise = 26;
+        promise(26);
         p26Text();
-        promise = 27;
+        promise(27);
         p27Order();
-        promise = 28;
+        promise(28);
         p28Same();
     }
 
     private static void wheels() {
-        promise = 29;
+        promise(29);
         p29SetWheel();
-        promise = 30;
+        promise(30);
         p30Step();
-        promise = 31;
+        promise(31);
         p31Turn();
-        promise = 32;
+        promise(32);
         p32Times();
-        promise = 33;
+        promise(33);
         p33Spoke();
-        promise = 34;
+        promise(34);
         p34Lowest();
-        promise = 35;
+        promise(35);
         p35Tens();
-        promise = 36;
+        promise(36);
         p36RestAt();
-        promise = 37;
+        promise(37);
         p37DigitsFrom();
-        promise = 38;
+        promise(38);
         p38CutText();
-        promise = 39;
+        promise(39);
         p39Number();
-        promise = 40;
+        promise(40);
         p40Product();
-        promise = 41;
+        promise(41);
         p41PartSum();
-        promise = 42;
+        promise(42);
         p42Nines();
-        promise = 43;
+        promise(43);
         p43PlaceOf();
-        promise = 44;
+        promise(44);
         p44WheelOrder();
-        promise = 45;
+        promise(45);
         p45Against();
     }
 
     public static void main(String[] args) {
         decimals();
         wheels();
-        promise = 46;
+        promise(46);
         p46House();
-        promise = 47;
+        promise(47);
         p47Knock();
-        promise = 48;
+        promise(48);
         p48IsSound();
-        promise = 49;
+        promise(49);
         p49Digest();
-        System.out.println(wrong == 0 ? "all answers are as due" : wrong + " answers are not as due");
-        if (wrong != 0) {
-            System.exit(1);
-        }
+        end();
     }
 }

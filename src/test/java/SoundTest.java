@@ -1,19 +1,16 @@
 import java.lang.reflect.Field;
 
 /**
- * No run of calls makes an object unsound, so this test reaches into one and spoils a number: isSound() must see it.
- * It knows the names of Ninewheel's private rows for that; whoever renames them renames them here.
+ * No run of calls makes an object unsound, so this test reaches into one and spoils a number: isSound() must see it,
+ * and digest() must end with it. It knows the names of Ninewheel's private rows for that; whoever renames them renames
+ * them here.
  */
-public final class SoundTest {
-    private static int wrong = 0;
-
+public final class SoundTest extends Check {
     private SoundTest() {
     }
 
     private static Ninewheel fresh() {
-        Ninewheel x = new Ninewheel();
-        x.put(0, 999999, 0);
-        x.put(1, -1250, 3);
+        Ninewheel x = cells("999999", "-1.250");
         x.setWheel(0, 1, 7);
         x.setWheel(1, 4, 21);
         return x;
@@ -28,17 +25,15 @@ public final class SoundTest {
         } catch (ReflectiveOperationException e) {
             throw new IllegalStateException(e);
         }
-        if (x.isSound()) {
-            wrong++;
-            System.out.println(row + "[" + at + "] = " + value + " is said to be sound");
-        }
+        about(48, "whether all of this is so, with " + row + "[" + at + "] = " + value);
+        is(x.isSound(), false);
+        about(49, "1 if isSound(), otherwise 0, with " + row + "[" + at + "] = " + value);
+        is(x.digest(), checksum(x));
     }
 
     public static void main(String[] args) {
-        if (!fresh().isSound()) {
-            wrong++;
-            System.out.println("what is sound is said not to be");
-        }
+        about(48, "whether all of this is so");
+        is(fresh().isSound(), true);
         spoil("counts", 0, 1000000);
         spoil("counts", 3, -1000000);
         spoil("points", 1, 4);
@@ -53,9 +48,6 @@ public final class SoundTest {
         spoil("bottoms", 0, 14);
         spoil("bottoms", 1, 0);
         spoil("bottoms", 0, 2);
-        System.out.println(wrong == 0 ? "all answers are as due" : wrong + " answers are not as due");
-        if (wrong != 0) {
-            System.exit(1);
-        }
+        end();
     }
 }

@@ -374,6 +374,35 @@ public final class WheelEdgeTest extends Check {
         return x;
     }
 
+    private static void eachWheel() {
+        for (int i = 0; i < 3; i++) {
+            int a = i;
+            int b = (i + 1) % 3;
+            int[] all = {0, 1, 0, 1, 0, 1};
+            all[2 * a] = 4;
+            all[2 * a + 1] = 21;
+            all[2 * b] = 12;
+            all[2 * b + 1] = 63;
+            about(29, "each WHEEL, with a numbered " + a + " and b numbered " + b);
+            turns(wheels(all), x -> x.setWheel(a, 3, 7), 6, a, "3 7 0 3 6");
+            turns(wheels(all), x -> x.step(a), 1, a, "4 21 1 19 6");
+            turns(wheels(all), x -> x.turn(a, 5), 13, a, "4 21 5 13 6");
+            turns(wheels(all), x -> x.times(a, 5, b), 20, b, "20 21 0 20 6");
+            turns(wheels(all), x -> x.times(b, 2, a), 24, a, "24 63 0 24 6");
+            tells(wheels(all), x -> x.spoke(a, 1) * 100 + x.spoke(b, 1), 2163);
+            tells(wheels(all), x -> x.lowest(a) * 100 + x.lowest(b), 2121);
+            tells(wheels(all), x -> x.restAt(a, 1) * 100 + x.restAt(b, 1), 1957);
+            tells(wheels(all), x -> x.digitsFrom(a, 1, 6) + " " + x.digitsFrom(b, 5, 2), "904761 61");
+            tells(wheels(all), x -> x.cutText(a, false, 3, 1) + " " + x.cutText(b, true, 2, 0), "0.190 -0.20");
+            tells(wheels(all), x -> x.number(a) + " " + x.number(b), "190476 190476");
+            tells(wheels(all), x -> x.product(a) + " " + x.product(b), "3999996 11999988");
+            tells(wheels(all), x -> x.partSum(a, 2) + " " + x.partSum(b, 3), "666 99");
+            tells(wheels(all), x -> x.nines(a, 3) * 10 + x.nines(b, 2), 9);
+            tells(wheels(all), x -> x.placeOf(a, b) * 10 + x.placeOf(b, 3 - a - b), -1);
+            tells(wheels(all), x -> x.wheelOrder(a, b) * 10 + x.wheelOrder(b, 3 - a - b), 1);
+        }
+    }
+
     // ---- the whole
 
     private static String house(Ninewheel x) {
@@ -473,39 +502,6 @@ public final class WheelEdgeTest extends Check {
         tells(wheels(22, 33, 14, 21, 66, 99), Ninewheel::isSound, true);
     }
 
-    /** The checksum as the document words it, of what the public face answers. */
-    private static long checksum(Ninewheel x) {
-        long d = 7944;
-        for (int cell = 0; cell < 4; cell++) {
-            d = d * 31 + x.count(cell);
-            d = d * 31 + x.places(cell);
-            d = d * 31 + x.digits(cell);
-            d = d * 31 + x.sign(cell);
-        }
-        int[][] pairs = {{0, 1}, {0, 2}, {0, 3}, {1, 2}, {1, 3}, {2, 3}};
-        for (int[] pair : pairs) {
-            d = d * 31 + x.order(pair[0], pair[1]);
-            d = d * 31 + (x.same(pair[0], pair[1]) ? 1 : 0);
-        }
-        for (int wheel = 0; wheel < 3; wheel++) {
-            for (int what = 0; what <= 4; what++) {
-                d = d * 31 + x.spoke(wheel, what);
-            }
-            d = d * 31 + x.nines(wheel, 2);
-            d = d * 31 + x.nines(wheel, 3);
-            for (int cell = 0; cell < 4; cell++) {
-                d = d * 31 + x.against(wheel, cell);
-            }
-        }
-        d = d * 31 + x.wheelOrder(0, 1);
-        d = d * 31 + x.wheelOrder(0, 2);
-        d = d * 31 + x.wheelOrder(1, 2);
-        for (int what = 0; what < 4; what++) {
-            d = d * 31 + x.house(what);
-        }
-        return d * 31 + (x.isSound() ? 1 : 0);
-    }
-
     private static void digest() {
         about(49, "A checksum d: it starts with 7944");
         Ninewheel[] all = {new Ninewheel(), cells("999999", "-999999", "999.999", "-999.999"),
@@ -548,6 +544,7 @@ public final class WheelEdgeTest extends Check {
         nines();
         placeOf();
         orders();
+        eachWheel();
         houseOfActs();
         houseOfAsked();
         knock();
